@@ -1,20 +1,8 @@
 /** Tells a desk its nodes in few words, and reads its pages as text. */
-final class Teller {
-    static final int PARAGRAPH = 0;
-    static final int HEADING = 1;
-    static final int RULE = 2;
-    static final int CODE = 3;
-    static final int QUOTE = 4;
-    static final int ROW = 5;
-    static final int NUMBERED = 6;
-    static final int ITEM = 7;
-    static final int GROUP = 8;
-    static final int BREAK = 9;
-    static final int TEXT = 10;
-
+final class Teller implements Kinds {
     final ProsePages desk = new ProsePages();
 
-    Teller begin(int... kinds) {
+    Teller open(int... kinds) {
         for (int kind : kinds) {
             desk.begin(kind, 1);
         }
@@ -43,11 +31,11 @@ final class Teller {
 
     /** A block that holds a text alone. */
     Teller block(int kind, String text) {
-        return begin(kind).say(text).end(1);
+        return begin(kind, 1).say(text).end(1);
     }
 
     Teller br() {
-        return begin(BREAK);
+        return begin(BREAK, 1);
     }
 
     private static int at(String text, int i) {
