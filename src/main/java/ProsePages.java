@@ -535,7 +535,9 @@ public final class ProsePages {
             }
             switch (part.kind) {
                 case HEADING:
-                    layHeading(part, width);
+                    addHeadingSign(part.value, width);
+                    layWords(part.from, part.to, width);
+                    draft.headingLines.set(part.atLine, draft.lineCount() - part.atLine);
                     break;
                 case RULE:
                     layRule(width);
@@ -556,14 +558,11 @@ public final class ProsePages {
             }
         }
 
-        private void layHeading(Node heading, int width) {
-            int line = draft.lineCount();
-            for (int i = 0; i < heading.value; i++) {
+        private void addHeadingSign(int level, int width) {
+            for (int i = 0; i < level; i++) {
                 addLetter('=', width);
             }
             endWord(width);
-            layWords(heading.from, heading.to, width);
-            draft.headingLines.set(line, draft.lineCount() - line);
         }
 
         private void layRule(int width) {
@@ -640,14 +639,14 @@ public final class ProsePages {
             }
         }
 
-        // A word shows that it is too long by a letter beyond the width: what came before is a piece.
+        // A word shows that it is too long by a letter beyond the width. The piece before that
+        // fills a line, so that nothing can come behind it there.
         private void addLetter(int letter, int width) {
             if (word.size() >= width) {
                 if (content.size() > 0) {
                     putLine();
                 }
                 content.addAll(word);
-                putLine();
                 word.cut(0);
             }
             word.add(letter);

@@ -6,6 +6,7 @@ public final class PagesTest implements Kinds {
         promise6Limits();
         promise6MostLines();
         promise6PagesOfBeforeStay();
+        promise6AgainAndAgain();
         promise7Cells();
         promise8Pages();
         promise8WithoutLines();
@@ -73,6 +74,25 @@ public final class PagesTest implements Kinds {
         Check.due("other words", teller.block(PARAGRAPH, "x").seen(5, 8), "x");
     }
 
+    private static void promise6AgainAndAgain() {
+        Teller teller = told().block(HEADING, "h").open(QUOTE).block(PARAGRAPH, "b b").block(PARAGRAPH, "c").end(1);
+        for (int i = 0; i < 3; i++) {
+            Check.due("told once", teller.seen(5, 8), "= h||> b b|>|> c");
+            Check.due("a heading's line", teller.desk.line(0, 2), 1);
+        }
+        for (int i = 0; i < 3; i++) {
+            teller.desk.clear();
+            Check.due("told anew", teller.block(PARAGRAPH, "x").block(CODE, "y\n\n\n\nz").seen(5, 9), "x||y||#z");
+            Check.due("no heading's line", teller.desk.line(0, 2), 0);
+            Check.due("found", teller.desk.find(3), 0);
+            Check.due("pages", teller.desk.about(3), 2);
+            teller.open(RULE);
+            Check.due("told more", teller.seen(6, 10), "x||y|||#z||----------");
+            Check.due("found", teller.desk.find(5), 1);
+            Check.due("lines", teller.desk.about(4), 9);
+        }
+    }
+
     private static void promise7Cells() {
         ProsePages desk = told().block(PARAGRAPH, "ab").block(CODE, "\t\u0000").desk;
         desk.pages(5, 8);
@@ -88,6 +108,11 @@ public final class PagesTest implements Kinds {
             {Integer.MIN_VALUE, Integer.MAX_VALUE, 0}, {0, Integer.MAX_VALUE, 0}, {0, 0, Integer.MAX_VALUE}};
         for (int[] at : none) {
             Check.due("cell(" + at[0] + ", " + at[1] + ", " + at[2] + ")", desk.cell(at[0], at[1], at[2]), NONE);
+        }
+        ProsePages early = lines(2).block(HEADING, "h").block(PARAGRAPH, "b").desk;
+        early.pages(5, 8);
+        for (int row = 2; row < 5; row++) {
+            Check.due("below the last line of a page", early.cell(0, row, 0), 32);
         }
         desk.begin(RULE, 0);
         Check.due("what is told behind pages() is not seen", desk.cell(0, 4, 0), 32);
@@ -161,6 +186,10 @@ public final class PagesTest implements Kinds {
             "a|a|#= h||= i||--------");
         Check.due("in an item", told().open(ROW, ITEM).block(CODE, "a\na\na\na").block(HEADING, "h").say("b").seen(5, 8),
             "* a|  a|  a|  a#  = h|  b");
+        Check.due("behind one line", told().open(ROW, ITEM).say("a").block(HEADING, "h h h h h h").say("b b b b")
+            .block(CODE, "c").seen(5, 8), "* a|  = h h|  h h h|  h|  b b b#  b|  c");
+        Check.due("behind one line, as many as the rows", told().open(ROW, ITEM).say("a").block(HEADING, "abc def ghi jkl")
+            .block(CODE, "c").seen(5, 8), "* a#  = abc|  def|  ghi|  jkl|  c");
         Check.due("at a page's beginning", told().block(HEADING, "h").block(PARAGRAPH, "b").seen(5, 8), "= h||b");
     }
 
