@@ -43,6 +43,7 @@ public final class LayoutTest implements Kinds {
 
     private static void longWords() {
         seen("just the width", 8, paragraph("abcdefgh i"), "abcdefgh|i");
+        seen("just the width behind a break", 8, told().open(PARAGRAPH).say("a").br().say("abcdefgh i"), "a|abcdefgh|i");
         seen("cut", 8, paragraph("abcdefghij k"), "abcdefgh|ij k");
         seen("on lines of its own", 8, paragraph("x abcdefghij k"), "x|abcdefgh|ij k");
         seen("twice the width", 8, paragraph("x abcdefghijklmnop k"), "x|abcdefgh|ijklmnop|k");

@@ -7,6 +7,7 @@ public final class PagesTest implements Kinds {
         promise6MostLines();
         promise6PagesOfBeforeStay();
         promise6AgainAndAgain();
+        promise6NothingIsLeftOver();
         promise7Cells();
         promise8Pages();
         promise8WithoutLines();
@@ -91,6 +92,22 @@ public final class PagesTest implements Kinds {
             Check.due("found", teller.desk.find(5), 1);
             Check.due("lines", teller.desk.about(4), 9);
         }
+    }
+
+    private static void promise6NothingIsLeftOver() {
+        Teller teller = lines(5).open(RULE);
+        teller.seen(40, 8);
+        teller.seen(40, 8);
+        Check.due("a line that had a page", teller.desk.line(5, 1), 0);
+        teller.desk.pages(5, 8);
+        Check.due("is left out", teller.desk.line(5, 1), NONE);
+        teller.desk.clear();
+        teller.block(CODE, "a\na\na\na").open(RULE);
+        teller.seen(5, 8);
+        teller.seen(5, 8);
+        teller.desk.clear();
+        teller.open(ROW, ITEM).end(1).open(ITEM).end(1).open(ITEM).end(1).open(ITEM).end(1).open(ITEM).end(1).open(ITEM);
+        found("items where a line between was", teller, 0, 0, 0, 0, 0, 0, 0, 1);
     }
 
     private static void promise7Cells() {
