@@ -31,6 +31,21 @@ final class Check {
         due(what, answer(call), "IllegalArgumentException");
     }
 
+    /** The call throws, and nothing that the desk answers is another than before. */
+    static void refused(String what, ProsePages desk, String exception, Call call) {
+        String before = Whole.of(desk);
+        due(what, answer(call), exception);
+        due(what + ", all then", Whole.of(desk), before);
+    }
+
+    static void refusedByState(String what, ProsePages desk, Call call) {
+        refused(what, desk, "IllegalStateException", call);
+    }
+
+    static void refusedByArgument(String what, ProsePages desk, Call call) {
+        refused(what, desk, "IllegalArgumentException", call);
+    }
+
     static boolean isAllRight() {
         return wrong == 0;
     }
