@@ -425,7 +425,7 @@ public final class ProsePages {
         }
 
         void addLine(Row ahead, Row content, int isBetween) {
-            if (lineCount() >= MOST_LINES) {
+            if (starts.size() >= MOST_LINES) {
                 isOverfull = true;
                 return;
             }

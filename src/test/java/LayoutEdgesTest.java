@@ -30,6 +30,7 @@ public final class LayoutEdgesTest implements Kinds {
         itemsApart();
         partsOfItemsApart();
         rowsOfInlines();
+        widthsInOneAnother();
         widthsAroundFour();
         widthsFarBelowFour();
         whatIsBeyondIsNotSeen();
@@ -317,6 +318,16 @@ public final class LayoutEdgesTest implements Kinds {
         seen("a BREAK between blocks", 8, told().open(ROW, ITEM, RULE).br().open(RULE), "* ------||  ------");
         seen("a GROUP of nothing between blocks", 8, told().open(ROW, ITEM, RULE, GROUP).end(1).open(RULE), "* ------|  ------");
         seen("a BREAK beside a PARAGRAPH", 8, told().open(ROW, ITEM).br().block(PARAGRAPH, "a"), "*||  a");
+    }
+
+    private static void widthsInOneAnother() {
+        lengths("a QUOTE in a QUOTE", 30, quotes(2).open(RULE), 30);
+        lengths("an ITEM in an ITEM", 30, told().open(ROW, ITEM, ROW, ITEM, RULE), 30);
+        lengths("an ITEM in a QUOTE in an ITEM", 30, told().begin(NUMBERED, 100).open(ITEM, QUOTE).begin(NUMBERED, 9)
+            .open(ITEM, RULE).end(1).open(ITEM, RULE), 30, 30);
+        lengths("what is behind an ITEM", 30, told().open(ROW, ITEM, ROW, ITEM, RULE).end(2).open(RULE).end(2).open(RULE),
+            30, 30, 0, 30);
+        lengths("what is behind a QUOTE", 30, quotes(2).open(RULE).end(1).open(RULE).end(1).open(RULE), 30, 1, 30, 0, 30);
     }
 
     private static void widthsAroundFour() {

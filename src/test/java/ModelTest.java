@@ -13,6 +13,7 @@ public final class ModelTest {
     private final Model model = new Model();
     // Every run has its own leanings, so that some go deep, some wide and some long.
     private final int endOften;
+    private final int beginOften;
     private final int whiteOften;
     private final int mostColumns;
 
@@ -20,6 +21,7 @@ public final class ModelTest {
         random = new Random(seed);
         run = "run " + seed + ": ";
         endOften = 1 + random.nextInt(8);
+        beginOften = 6 + 6 * random.nextInt(5);
         whiteOften = random.nextInt(6);
         mostColumns = random.nextBoolean() ? 12 : 60;
     }
@@ -28,22 +30,48 @@ public final class ModelTest {
         for (long seed = 0; seed < 2500 && Check.isAllRight(); seed++) {
             new ModelTest(seed).go();
         }
+        for (long seed = 0; seed < 100 && Check.isAllRight(); seed++) {
+            new ModelTest(seed).goLong();
+        }
         Check.done();
     }
 
     private void go() {
-        int calls = random.nextInt(5) == 0 ? 420 : 20 + random.nextInt(120);
+        int calls = random.nextInt(5) == 0 ? 512 : 20 + random.nextInt(120);
         for (int i = 0; i < calls; i++) {
             step();
         }
         compareAll();
     }
 
+    /** Some nodes, then a long CODE, whose lines come to 1500 and beyond. */
+    private void goLong() {
+        int some = random.nextInt(60);
+        for (int i = 0; i < some; i++) {
+            step();
+        }
+        while (!Model.holds(model.hand.kind).startsWith("0 ")) {
+            end();
+        }
+        begin(3, 0);
+        for (int i = 0; i < 400; i++) {
+            say(lineEnd(), lineEnd(), lineEnd(), lineEnd(), 4);
+            if (i % 40 == 0 || i > 360) {
+                pages(5 + random.nextInt(36), 8 + random.nextInt(mostColumns - 7));
+            }
+        }
+        compareAll();
+    }
+
+    private int lineEnd() {
+        return random.nextInt(25) == 0 ? letter() : 10;
+    }
+
     private void step() {
         int draw = random.nextInt(40);
         if (draw < endOften) {
-            Check.due(run + "end()", "" + desk.end(), model.end());
-        } else if (draw < 22) {
+            end();
+        } else if (draw < endOften + beginOften) {
             begin();
         } else if (draw < 38) {
             say();
@@ -52,6 +80,10 @@ public final class ModelTest {
         } else {
             rare();
         }
+    }
+
+    private void end() {
+        Check.due(run + "end()", "" + desk.end(), model.end());
     }
 
     private void begin() {
