@@ -1,3 +1,4 @@
+import java.util.List;
 import java.util.function.Consumer;
 
 /** The boundary cases of promises 6 to 10 and of how lines come on pages, a test for each sentence that names one. */
@@ -34,6 +35,7 @@ public final class PagesEdgesTest implements Kinds {
         promise6MostLinesOfEachKind();
         promise6PagesOfBeforeStay();
         promise6ToldBehind();
+        promise6NothingOfOtherPagesShows();
         promise7FirstAndLast();
         promise7NoneSuch();
         promise7WhereNothingIs();
@@ -397,6 +399,52 @@ public final class PagesEdgesTest implements Kinds {
         Check.due("laid out anew", teller.seen(5, 8), "ab||cd||--------");
         Check.due("and in other columns", teller.seen(6, 9), "ab||cd||---------");
         Check.due("and again", teller.seen(5, 8), "ab||cd||--------");
+    }
+
+    private static final List<Consumer<Teller>> TEXTS = List.of(
+        t -> { },
+        t -> t.open(PARAGRAPH).end(1),
+        t -> t.block(CODE, "a\na\na\na").open(PARAGRAPH).end(1).open(RULE),
+        t -> t.block(CODE, "\n\na\na\na\na\na\n\nb"),
+        t -> t.block(HEADING, "h").block(HEADING, "i").block(HEADING, "j").block(HEADING, "k"),
+        t -> t.open(ROW, ITEM).end(1).open(ITEM).end(1).open(ITEM).end(1).open(ITEM).end(1).open(ITEM).end(1).open(ITEM).end(2),
+        t -> t.begin(NUMBERED, 98).open(ITEM).block(PARAGRAPH, "b").end(1).open(ITEM).say("c").open(QUOTE).end(1)
+            .block(PARAGRAPH, "d").end(1).open(ITEM).end(2),
+        t -> t.open(QUOTE).block(PARAGRAPH, "a b c d e").open(CODE).end(1).open(QUOTE, RULE, RULE).end(2).open(RULE));
+
+    private static void promise6NothingOfOtherPagesShows() {
+        for (int i = 0; i < TEXTS.size(); i++) {
+            for (int j = 0; j < TEXTS.size(); j++) {
+                // Twice, so that whatever pages() uses again has held other lines before.
+                Teller cleared = told();
+                TEXTS.get(i).accept(cleared);
+                cleared.desk.pages(5, 9);
+                cleared.desk.pages(6, 8);
+                cleared.desk.clear();
+                TEXTS.get(j).accept(cleared);
+                Teller fresh = told();
+                TEXTS.get(j).accept(fresh);
+                samePages("text " + j + " behind text " + i + ", cleared", cleared.desk, fresh.desk);
+                Teller more = told();
+                TEXTS.get(i).accept(more);
+                more.desk.pages(6, 9);
+                more.desk.pages(5, 8);
+                TEXTS.get(j).accept(more);
+                Teller once = told();
+                TEXTS.get(i).accept(once);
+                TEXTS.get(j).accept(once);
+                samePages("text " + j + " behind text " + i, more.desk, once.desk);
+            }
+        }
+    }
+
+    private static void samePages(String what, ProsePages used, ProsePages fresh) {
+        fresh.pages(5, 8);
+        String due = Whole.of(fresh);
+        for (int i = 0; i < 3; i++) {
+            used.pages(5, 8);
+            Check.due(what, Whole.of(used), due);
+        }
     }
 
     /** Three pages of five rows and eight columns, the last of one line. */
