@@ -317,6 +317,9 @@ public final class LayoutEdgesTest implements Kinds {
         seen("white between blocks", 8, told().open(ROW, ITEM, RULE).say(" ").open(RULE), "* ------|  ------");
         seen("a BREAK between blocks", 8, told().open(ROW, ITEM, RULE).br().open(RULE), "* ------||  ------");
         seen("a GROUP of nothing between blocks", 8, told().open(ROW, ITEM, RULE, GROUP).end(1).open(RULE), "* ------|  ------");
+        seen("a GROUP of nothing at the end", 8, told().open(ROW, ITEM).say("a").open(GROUP), "* a");
+        seen("a GROUP of nothing at the beginning", 8, told().open(ROW, ITEM, GROUP).end(1).say("a"), "* a");
+        seen("a GROUP of nothing in a word", 8, told().open(ROW, ITEM).say("a").open(GROUP).end(1).say("b"), "* ab");
         seen("a BREAK beside a PARAGRAPH", 8, told().open(ROW, ITEM).br().block(PARAGRAPH, "a"), "*||  a");
     }
 

@@ -67,7 +67,7 @@ final class Model {
         return (" " + holds(holder.kind)).contains(" " + kind + " ");
     }
 
-    private boolean isRefused() {
+    boolean isRefused() {
         int depth = 1;
         for (N n = hand; n != null; n = n.holder) {
             depth++;

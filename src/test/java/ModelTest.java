@@ -32,6 +32,7 @@ public final class ModelTest {
         }
         for (long seed = 0; seed < 100 && Check.isAllRight(); seed++) {
             new ModelTest(seed).goLong();
+            new ModelTest(seed).goWide();
         }
         Check.done();
     }
@@ -63,6 +64,21 @@ public final class ModelTest {
         compareAll();
     }
 
+    /** Nodes upon nodes, up to 300 of them and beyond. */
+    private void goWide() {
+        for (int i = 0; i < 512; i++) {
+            boolean isDeep = model.isRefused() && model.nodes.size() < 300;
+            if (isDeep || model.hand.kind == 3 || random.nextInt(8) == 0) {
+                end();
+            } else if (random.nextInt(12) == 0) {
+                step();
+            } else {
+                begin();
+            }
+        }
+        compareAll();
+    }
+
     private int lineEnd() {
         return random.nextInt(25) == 0 ? letter() : 10;
     }
@@ -87,7 +103,7 @@ public final class ModelTest {
     }
 
     private void begin() {
-        String[] kinds = Model.holds(model.hand.kind).split(" ");
+        String[] kinds = Model.holds(model.hand.kind).replace(" 10 ", " ").split(" ");
         int kind = Integer.parseInt(kinds[random.nextInt(kinds.length)]);
         int number = kind == 1 ? 1 + random.nextInt(6)
             : kind == 6 && random.nextBoolean() ? 999999990 + random.nextInt(10) : random.nextInt(120);
